@@ -704,10 +704,6 @@ public final class DiamondRows {
             return to >= from ? to - from : to - from + corners;
         }
 
-        private int onward(int corner) {
-            return corner + 1 == corners ? 0 : corner + 1;
-        }
-
         /** The CORNER ROW's number: a corner has one TRIANGLE more than LINES. */
         int trianglesAt(int cut, int corner) {
             return hasCorner(corner) ? 1 + Integer.bitCount(cut & linesAt[corner]) : 0;
@@ -744,31 +740,31 @@ public final class DiamondRows {
             return Integer.bitCount(lost) == 1 ? numberOf(cut ^ lost | 1 << line) : NONE;
         }
 
-        private int turned(int cut) {
+        /** A CUT with all corners turned on by one, or mirrored: told from the other end. */
+        private int moved(int cut, boolean mirrored) {
             int result = 0;
             for (int line = 0; line < lineCount; line++) {
-                if ((cut >> line & 1) != 0) {
-                    result |= 1 << lineOf(onward(lesser[line]), onward(greater[line]));
+                if (has(cut, line)) {
+                    int one = movedCorner(lesser[line], mirrored);
+                    int other = movedCorner(greater[line], mirrored);
+                    result |= 1 << lineOf(one, other);
                 }
             }
             return result;
         }
 
-        private int mirror(int cut) {
-            int result = 0;
-            for (int line = 0; line < lineCount; line++) {
-                if ((cut >> line & 1) != 0) {
-                    result |= 1 << lineOf(corners - 1 - lesser[line], corners - 1 - greater[line]);
-                }
+        private int movedCorner(int corner, boolean mirrored) {
+            if (mirrored) {
+                return corners - 1 - corner;
             }
-            return result;
+            return corner + 1 == corners ? 0 : corner + 1;
         }
 
         private int leastTurned(int cut) {
             int best = cut;
             int turning = cut;
             for (int turn = 1; turn < corners; turn++) {
-                turning = turned(turning);
+                turning = moved(turning, false);
                 best = Math.min(best, turning);
             }
             return best;
@@ -777,7 +773,7 @@ public final class DiamondRows {
         /** The least BITS of the CUTS ALIKE to a CUT. */
         int leastAlike(int cut, boolean mirrored) {
             int best = leastTurned(cut);
-            return mirrored ? Math.min(best, leastTurned(mirror(cut))) : best;
+            return mirrored ? Math.min(best, leastTurned(moved(cut, true))) : best;
         }
 
         int countKinds(boolean mirrored) {

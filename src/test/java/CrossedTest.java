@@ -5,6 +5,7 @@ final class CrossedTest {
 
     public static void main(String[] args) {
         fan();
+        fanInTheMiddle();
         zigzag();
         wrong();
         greatest();
@@ -29,6 +30,19 @@ final class CrossedTest {
         CHECK.due("crossed(0, 5, -1): a LINE of the CUT", x.crossed(0, 5, -1), 0);
         CHECK.due("crossed(4, 5, -1): next to each other", x.crossed(4, 5, -1), 0);
         CHECK.due("crossed(8, 0, -1): next to each other", x.crossed(8, 0, -1), 0);
+    }
+
+    /** Here the corner that LINES have in common is now their lesser, now their greater one. */
+    private static void fanInTheMiddle() {
+        DiamondRows x = new DiamondRows();
+        Check.cut(x, "corners 9;4 6;4 7;4 8;4 0;4 1;4 2;");
+        int[] lines = {64 + 6, 64 + 7, 64 + 8, 4, 16 + 4, 32 + 4};
+        for (int k = 0; k < 6; k++) {
+            CHECK.due("crossed(5, 3, " + k + ")", x.crossed(5, 3, k), lines[k]);
+            CHECK.due("crossed(3, 5, " + k + ")", x.crossed(3, 5, k), lines[5 - k]);
+            CHECK.due("side(5, 3, " + k + ")", x.side(5, 3, k), k < 5 ? 1 : DiamondRows.NONE);
+            CHECK.due("side(3, 5, " + k + ")", x.side(3, 5, k), k < 5 ? 0 : DiamondRows.NONE);
+        }
     }
 
     private static void zigzag() {

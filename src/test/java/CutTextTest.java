@@ -53,6 +53,12 @@ final class CutTextTest {
         fault("corner 4;0 2;", 1, 0);
         fault("cornerss 4;0 2;", 1, 0);
         fault(" cornersss 4;0 2;", 1, 1);
+        fault("cornersa 4;0 2;", 1, 0);
+        fault("cornersz4;0 2;", 1, 0);
+        fault("corners`4;0 2;", 1, 7);
+        fault("corners{4;0 2;", 1, 7);
+        fault("corners 4:0 2;", 1, 9);
+        fault("corners 4/0 2;", 1, 9);
         fault("4;0 2;", 1, 0);
         fault(";", 1, 0);
         fault("Corners 4;0 2;", 1, 0);

@@ -126,6 +126,9 @@ final class EndlessTest {
         Check.period(x, "3 4");
         // e(0, 3) is 3 * 4 - 1, e(1, 1) is 1.
         CHECK.due("growth() of 3 4", x.growth(), 10);
+        Check.period(x, "2 3 5");
+        // e(0, 4) is 2 * (5 * 3 - 1) - 3, e(1, 2) is 5.
+        CHECK.due("growth() of 2 3 5", x.growth(), 20);
         Check.period(x, "20 20 20 20 20 20 20 20 20 20");
         CHECK.due("growth() of ten", x.growth(), x.along(0, 11) - x.along(1, 9));
         Check.period(x, "2 2 2 2 2 2 2 2 2 2");
