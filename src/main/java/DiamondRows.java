@@ -305,7 +305,7 @@ public final class DiamondRows {
     }
 
     public int right(int told, int k, int v) {
-        if (!sightings.canTell(told) || !sightings.has(k) || !isValue(v)) {
+        if (!sightings.canTell(told) || !sightings.wasSeenBefore(told, k) || !isValue(v)) {
             return RANGE;
         }
         return sightings.putRight(told, k, v);
@@ -1367,8 +1367,13 @@ public final class DiamondRows {
             return rights;
         }
 
-        boolean has(int k) {
+        private boolean has(int k) {
             return k >= 0 && k < size;
+        }
+
+        /** Whether there is such a one, told ahead of a STEP: it is put RIGHT at a later one. */
+        boolean wasSeenBefore(int step, int k) {
+            return has(k) && seenStep[k] < step;
         }
 
         boolean canTell(int step) {

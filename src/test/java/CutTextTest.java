@@ -145,6 +145,6 @@ final class CutTextTest {
         CHECK.due("SEEN with fewer corners", x.count(0), 0);
         CHECK.due("RIGHT with fewer corners", x.count(1), 0);
         CHECK.due("the latest STEP is 0", x.see(0, 0, 2, 1), 0);
-        CHECK.due("puttings RIGHT begin anew", x.right(0, 0, 1), 1);
+        CHECK.due("puttings RIGHT begin anew", x.right(1, 0, 1), 1);
     }
 }

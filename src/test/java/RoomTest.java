@@ -74,7 +74,7 @@ final class RoomTest {
         x.cutOff(1);
         x.core();
         x.see(0, 0, 2, 1);
-        x.right(0, 0, 2);
+        x.right(1, 0, 2);
         x.fit(0, 0);
         x.surely(0, 2, 0);
         x.ask(0);

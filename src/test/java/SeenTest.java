@@ -39,6 +39,7 @@ final class SeenTest {
         CHECK.due("right() with nothing SEEN", x.right(0, 0, 1), DiamondRows.RANGE);
         x.see(3, 0, 2, 2);
         x.see(3, 0, 3, 2);
+        CHECK.due("the STEP of telling is no later one", x.right(3, 1, 1), DiamondRows.RANGE);
         CHECK.due("right(4, 1, 1)", x.right(4, 1, 1), 1);
         CHECK.due("right(4, 1, 2)", x.right(4, 1, 2), 2);
         CHECK.due("right(6, 0, 9999)", x.right(6, 0, 9999), 1);
@@ -62,7 +63,8 @@ final class SeenTest {
         }
         CHECK.due("one more", x.see(20, 0, 2, 1), DiamondRows.FULL);
         CHECK.due("a wrong one more", x.see(20, 0, 0, 1), DiamondRows.RANGE);
-        CHECK.due("FULL did not move the STEP on", x.right(19, 19, 1), 1);
+        CHECK.due("FULL did not move the STEP on", x.right(19, 18, 1), 1);
+        CHECK.due("the STEP of its own telling", x.right(19, 19, 1), DiamondRows.RANGE);
         for (int k = 2; k <= 20; k++) {
             CHECK.due("right() the time " + k, x.right(30 + k, 3, 1), k - 1);
         }
@@ -73,7 +75,7 @@ final class SeenTest {
         CHECK.due("fit(999, 0)", x.fit(999, 0), 132);
         x.take(8, 0);
         CHECK.due("room again", x.see(0, 0, 2, 1), 0);
-        CHECK.due("room again", x.right(0, 0, 1), 1);
+        CHECK.due("room again", x.right(1, 0, 1), 1);
     }
 
     private static void known() {

@@ -757,7 +757,7 @@ final class SlowModel {
     }
 
     int right(int told, int k, int v) {
-        if (noTelling(told, v) || k < 0 || k >= seen.size()) {
+        if (noTelling(told, v) || k < 0 || k >= seen.size() || told <= seen.get(k).step()) {
             return RANGE;
         }
         if (rights.size() == 20) {
