@@ -643,7 +643,7 @@ public final class DiamondRows {
         int numberOf(int wanted) {
             int low = 0;
             int high = cutCount - 1;
-            while (low <= high) {
+            for (int round = 0; round < MOST_CUTS && low <= high; round++) {
                 int middle = (low + high) >> 1;
                 if (cuts[middle] == wanted) {
                     return middle;

@@ -176,6 +176,14 @@ final class CutEdgesTest {
         edges.due("way(0, 4, 0, 1)", x.way(0, 4, 0, 1), 0);
         edges.due("way(0, 4, 0, 2)", x.way(0, 4, 0, 2), 1);
         edges.due("way(0, 4, 0, 3)", x.way(0, 4, 0, 3), 2);
+        for (int n = 4; n <= 9; n++) {
+            // TRIANGLES t (0, t + 1, t + 2): the last corner has the last one alone, so each has the lesser of its two.
+            x.take(n, 0);
+            for (int corner = 2; corner < n; corner++) {
+                edges.due("way(1, 0, 0, " + corner + ")", x.way(1, 0, 0, corner), corner - 2);
+            }
+            edges.due("way(1, 0, 1, 2)", x.way(1, 0, 1, 2), RANGE);
+        }
     }
 
     private static void wayRefused() {
@@ -219,6 +227,10 @@ final class CutEdgesTest {
         edges.due("flip(5, 7)", x.flip(5, 7), 16 * 6 + 8);
         DiamondRows y = new DiamondRows();
         edges.due("told(1)", x.told(1), Check.cut(y, "corners 9;2 8;4 8;0 2;2 4;6 8;5 8;"));
+        y.take(4, 1);
+        edges.due("flip(1, 3) of four corners", y.flip(1, 3), 2);
+        edges.due("flip(2, 0) of four corners", y.flip(2, 0), 16 + 3);
+        edges.due("told(1)", y.told(1), 1);
     }
 
     private static void flipRefused() {
@@ -298,6 +310,9 @@ final class CutEdgesTest {
         DiamondRows x = new DiamondRows();
         edges.due("farthest(0) of four corners", x.farthest(0), 1);
         edges.due("farthest(1) of four corners", x.farthest(1), 1);
+        x.take(4, 1);
+        edges.due("farthest(0) of the other one", x.farthest(0), 1);
+        edges.due("farthest(1) of the other one", x.farthest(1), 1);
         for (int number = 0; number < 5; number++) {
             x.take(5, number);
             edges.due("farthest(0) of five corners", x.farthest(0), 2);

@@ -146,6 +146,9 @@ final class RowEdgesTest {
         edges.due("crossed(2, 0, NONE)", x.crossed(2, 0, NONE), 2);
         edges.due("crossed(2, 0, 0)", x.crossed(2, 0, 0), 16 + 3);
         edges.due("crossed(2, 0, 1)", x.crossed(2, 0, 1), 16 + 6);
+        DiamondRows four = new DiamondRows();
+        edges.due("crossed(3, 1, NONE) of four corners", four.crossed(3, 1, NONE), 1);
+        edges.due("crossed(3, 1, 0) of four corners", four.crossed(3, 1, 0), 2);
         edges.says(21, "(none if they are next to each other or the CUT has it)");
         edges.due("crossed(3, 4, NONE)", x.crossed(3, 4, NONE), 0);
         edges.due("crossed(6, 0, NONE)", x.crossed(6, 0, NONE), 0);
@@ -186,6 +189,9 @@ final class RowEdgesTest {
         // From 2 to 0 (by 3 .. 6): 1 3 and 1 6 have 1.
         edges.due("side(2, 0, 0)", x.side(2, 0, 0), 1);
         edges.due("side(0, 2, 0)", x.side(0, 2, 0), 0);
+        // From 2 to 5: 1 3 and 3 6 have 3.
+        edges.due("side(2, 5, 0)", x.side(2, 5, 0), 0);
+        edges.due("side(5, 2, 0)", x.side(5, 2, 0), 1);
         edges.says(22, "NONE: the last one, or none such");
         edges.due("side(0, 4, 2), the last one", x.side(0, 4, 2), NONE);
         edges.due("side(2, 0, 1), the last one", x.side(2, 0, 1), NONE);

@@ -152,6 +152,12 @@ final class TapeEdgesTest {
         for (int number = 0; number < six.length; number++) {
             good("corners 6;" + six[number], 6, number);
         }
+        DiamondRows x = new DiamondRows();
+        for (int number = 0; number < six.length; number++) {
+            edges.due("cut() of " + six[number] + " behind others", Check.cut(x, "corners 6;" + six[number]), number);
+        }
+        Check.cut(x, "corners 6;1 3;3 5;x");
+        edges.due("cut() behind a FAULT", Check.cut(x, "corners 6;1 3;3 5;1 5;"), 11);
         // The first six LINES are all at corner 0; the last LINES of the corners 1 to 6 are all at corner 8.
         good("corners 9;0 2;0 3;0 4;0 5;0 6;0 7;", 9, 0);
         good("corners 9;1 8;2 8;3 8;4 8;5 8;6 8;", 9, 428);
@@ -276,6 +282,10 @@ final class TapeEdgesTest {
         fault("cornersab 4;0 2;", 1, 0);
         fault("corner 4;0 2;", 1, 0);
         fault("corner s 4;0 2;", 1, 0);
+        fault("cornersz 4;0 2;", 1, 0);
+        fault("dorners 4;0 2;", 1, 0);
+        fault("cornars 4;0 2;", 1, 0);
+        fault("cornert 4;0 2;", 1, 0);
         fault("CORNERS 4;0 2;", 1, 0);
         fault("cornerS 4;0 2;", 1, 0);
         edges.says(5, "blanks (32, 10)");
