@@ -776,14 +776,27 @@ public final class DiamondRows {
             return mirrored ? Math.min(best, leastTurned(moved(cut, true))) : best;
         }
 
+        /** Each kind is counted by its least CUT; most CUTS are soon seen to be none, so leastAlike is too dear. */
         int countKinds(boolean mirrored) {
             int found = 0;
             for (int number = 0; number < cutCount; number++) {
-                if (leastAlike(cuts[number], mirrored) == cuts[number]) {
+                int cut = cuts[number];
+                if (neverTurnsBelow(cut, cut) && (!mirrored || neverTurnsBelow(moved(cut, true), cut))) {
                     found++;
                 }
             }
             return found;
+        }
+
+        private boolean neverTurnsBelow(int cut, int least) {
+            int turning = cut;
+            for (int turn = 0; turn < corners; turn++) {
+                if (turning < least) {
+                    return false;
+                }
+                turning = moved(turning, false);
+            }
+            return true;
         }
 
         /** How much a CUT's CORNER ROW differs from a told row. */
@@ -812,9 +825,21 @@ public final class DiamondRows {
         int greatestIn(int cut) {
             int most = 0;
             for (int i = 0; i < corners; i++) {
-                for (int j = i + 1; j < corners; j++) {
-                    most = Math.max(most, entryOf(cut, i, j));
-                }
+                most = Math.max(most, greatestFrom(cut, i));
+            }
+            return most;
+        }
+
+        /** The greatest entry of a corner and one behind it: all of them grow on the way to the last. */
+        private int greatestFrom(int cut, int i) {
+            int most = 0;
+            int before = 0;
+            int here = 1;
+            for (int j = i + 1; j < corners; j++) {
+                most = Math.max(most, here);
+                int grown = trianglesAt(cut, j) * here - before;
+                before = here;
+                here = grown;
             }
             return most;
         }
@@ -1478,17 +1503,15 @@ public final class DiamondRows {
             return having == size ? 1 : having == 0 ? 0 : 2;
         }
 
-        /** The two corners to ASK for next; NONE if all that FIT agree in all. */
+        /** The two corners to ASK for next (those next to each other tell nothing); NONE if all that FIT agree in all. */
         int bestQuestion(Polygon polygon) {
             int best = NONE;
             int fewest = size;
-            for (int i = 0; i < polygon.corners(); i++) {
-                for (int j = i + 1; j < polygon.corners(); j++) {
-                    int most = mostAgreeing(polygon, i, j);
-                    if (most < fewest) {
-                        fewest = most;
-                        best = 16 * i + j;
-                    }
+            for (int line = 0; line < polygon.lineCount(); line++) {
+                int most = mostAgreeing(polygon, polygon.lesserOf(line), polygon.greaterOf(line));
+                if (most < fewest) {
+                    fewest = most;
+                    best = polygon.pairOf(line);
                 }
             }
             return best;
